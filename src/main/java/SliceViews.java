@@ -693,7 +693,6 @@ public final class SliceViews {
             for (int a = nextAxis; a >= 0 && a < source.sizes.length; a++) {
                 addAxis(source.sizes[a], source.steps[a]);
             }
-            nextAxis = source.sizes.length;
         }
 
         Grid result() {
