@@ -49,6 +49,16 @@ final class Check {
         }
     }
 
+    static int spread(SliceViews x, int g, int... sizes) {
+        tellSizes(x, sizes);
+        return x.spread(g);
+    }
+
+    static int shaped(SliceViews x, int g, int... sizes) {
+        tellSizes(x, sizes);
+        return x.shaped(g);
+    }
+
     static int put(SliceViews x, int g, long v, int... spot) {
         tellSpot(x, spot);
         return x.put(g, v);
@@ -59,7 +69,7 @@ final class Check {
         return x.get(g);
     }
 
-    private static void tellSpot(SliceViews x, int... spot) {
+    static void tellSpot(SliceViews x, int... spot) {
         for (int index : spot) {
             x.at(index);
         }
@@ -83,6 +93,15 @@ final class Check {
         out.append(")");
         for (int n = 0; n < x.cells(g); n++) {
             out.append(" ").append(x.cell(g, n));
+        }
+        return out.toString();
+    }
+
+    /** Every grid as shown() tells it: what must be the same before and after a refused call. */
+    static String all(SliceViews x) {
+        StringBuilder out = new StringBuilder();
+        for (int g = 1; x.axes(g) >= 0; g++) {
+            out.append(g == 1 ? "" : "; ").append(shown(x, g));
         }
         return out.toString();
     }

@@ -6,8 +6,6 @@ public final class CollectTest {
         newObject();
         feedCounts();
         feedOrder();
-        feedFullTray();
-        feedTooMuchInAll();
         endCuts();
         axisEdges();
         atEdges();
@@ -53,32 +51,6 @@ public final class CollectTest {
         CHECK.due("end", x.end(2), 2);
         CHECK.due("byte 255 is no end of the text", x.view(1), -20);
         CHECK.due("its place", x.place(), 1);
-    }
-
-    private static void feedFullTray() {
-        SliceViews x = new SliceViews();
-        int last = 0;
-        for (int n = 0; n < 800; n++) {
-            last = x.feed(0, 0, 0, 0, 0);
-        }
-        CHECK.due("feed to the tray's last byte", last, 16000);
-        CHECK.due("feed into a full tray", x.feed(0, 0, 0, 0, 0), -1);
-        CHECK.due("the full tray stays", x.end(16000), 16000);
-        CHECK.due("end by 19", x.end(15981), 15981);
-        CHECK.due("19 bytes are no room", x.feed(0, 0, 0, 0, 0), -1);
-        CHECK.due("end by 20", x.end(15980), 15980);
-        CHECK.due("20 bytes are room", x.feed(0, 0, 0, 0, 0), 16000);
-    }
-
-    private static void feedTooMuchInAll() {
-        SliceViews x = new SliceViews();
-        for (int n = 0; n < 3276; n++) {
-            x.end(0);
-            CHECK.due("feed number " + n, x.feed(0, 0, 0, 0, 0), 20);
-        }
-        x.end(3);
-        CHECK.due("feed beyond 65536 in all", x.feed(0, 0, 0, 0, 0), -1);
-        CHECK.due("nothing went in", x.end(4), -1);
     }
 
     private static void endCuts() {

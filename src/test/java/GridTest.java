@@ -43,8 +43,8 @@ public final class GridTest {
         CHECK.due("the last one", Check.grid(x), 3);
         CHECK.due("one more", Check.grid(x), -12);
         CHECK.due("none are still room", Check.grid(x, 0), 4);
-        CHECK.due("shaped of none", shaped(x, 2, 3, 0), 5);
-        CHECK.due("shaped of one", shaped(x, 3, 1), -12);
+        CHECK.due("shaped of none", Check.shaped(x, 2, 3, 0), 5);
+        CHECK.due("shaped of one", Check.shaped(x, 3, 1), -12);
         CHECK.due("a view needs no cells", Check.view(x, 1, ""), 6);
         CHECK.due("the last cell", x.cell(1, 99998), 0);
         CHECK.due("its code", x.code(), 0);
@@ -53,11 +53,6 @@ public final class GridTest {
         CHECK.due("no cell left", Check.grid(y, 1), -12);
         CHECK.due("put at the last", Check.put(y, 1, 3, 999, 99), 0);
         CHECK.due("the last", y.cell(1, 99999), 3);
-    }
-
-    private static int shaped(SliceViews x, int g, int... sizes) {
-        Check.tellSizes(x, sizes);
-        return x.shaped(g);
     }
 
     private static void roomForGrids() {
@@ -76,7 +71,7 @@ public final class GridTest {
         CHECK.due("a spread of no such grid", x.spread(401), -14);
         CHECK.due("no such axis comes before the room", x.turned(1, 0, 0), -2);
         CHECK.due("shaped 401", x.shaped(1), -12);
-        CHECK.due("shaped to none: -3 comes before the room", shaped(x, 1, 0), -3);
+        CHECK.due("shaped to none: -3 comes before the room", Check.shaped(x, 1, 0), -3);
         CHECK.due("grid 400 is there", x.cells(400), 1);
         CHECK.due("grid 401 is not", x.cells(401), -14);
         SliceViews y = new SliceViews();

@@ -26,16 +26,6 @@ public final class OtherViewsTest {
         return g;
     }
 
-    private static int spread(SliceViews x, int g, int... sizes) {
-        Check.tellSizes(x, sizes);
-        return x.spread(g);
-    }
-
-    private static int shaped(SliceViews x, int g, int... sizes) {
-        Check.tellSizes(x, sizes);
-        return x.shaped(g);
-    }
-
     private static void turned() {
         SliceViews x = new SliceViews();
         counted(x, 2, 3);
@@ -65,55 +55,55 @@ public final class OtherViewsTest {
     private static void spreadCells() {
         SliceViews x = new SliceViews();
         Check.counted(x, 3);
-        CHECK.due("spread to 2 3", spread(x, 1, 2, 3), 2);
+        CHECK.due("spread to 2 3", Check.spread(x, 1, 2, 3), 2);
         CHECK.dueText("spread to 2 3", Check.shown(x, 2), "(2,3) 100 101 102 100 101 102");
         CHECK.due("a column", Check.view(x, 1, ":,*"), 3);
-        CHECK.due("spread the column", spread(x, 3, 3, 2), 4);
+        CHECK.due("spread the column", Check.spread(x, 3, 3, 2), 4);
         CHECK.dueText("spread the column", Check.shown(x, 4), "(3,2) 100 100 101 101 102 102");
         CHECK.due("spread one cell", Check.view(x, 1, "1"), 5);
-        CHECK.due("to three axes", spread(x, 5, 2, 1, 2), 6);
+        CHECK.due("to three axes", Check.spread(x, 5, 2, 1, 2), 6);
         CHECK.dueText("to three axes", Check.shown(x, 6), "(2,1,2) 101 101 101 101");
-        CHECK.due("spread to no more", spread(x, 1, 3), 7);
-        CHECK.due("spread of a spread view", spread(x, 2, 2, 2, 3), 8);
+        CHECK.due("spread to no more", Check.spread(x, 1, 3), 7);
+        CHECK.due("spread of a spread view", Check.spread(x, 2, 2, 2, 3), 8);
         CHECK.due("cells", x.cells(8), 12);
         Check.put(x, 1, 55, 2);
         CHECK.dueText("a put into the grid shows", Check.shown(x, 2), "(2,3) 100 101 55 100 101 55");
         CHECK.due("and at the last", Check.get(x, 8, 1, 1, 2), 55);
-        CHECK.due("1 to 0", spread(x, 3, 3, 0), 9);
+        CHECK.due("1 to 0", Check.spread(x, 3, 3, 0), 9);
         CHECK.due("no cells", x.cells(9), 0);
         Check.grid(x, 0);
-        CHECK.due("0 to 2 0", spread(x, 10, 2, 0), 11);
-        CHECK.due("no axes to none", spread(x, 5), 12);
+        CHECK.due("0 to 2 0", Check.spread(x, 10, 2, 0), 11);
+        CHECK.due("no axes to none", Check.spread(x, 5), 12);
         CHECK.due("its cell", x.get(12), 101);
     }
 
     private static void spreadRefusals() {
         SliceViews x = new SliceViews();
         Check.grid(x, 2, 3);
-        CHECK.due("no such grid", spread(x, 2, 2, 3), -14);
-        CHECK.due("other last", spread(x, 1, 2, 4), -3);
-        CHECK.due("other first", spread(x, 1, 3, 3), -3);
-        CHECK.due("counted from the last, not from the first", spread(x, 1, 2, 3, 4), -3);
-        CHECK.due("counted from the last", spread(x, 1, 4, 2, 3), 2);
-        CHECK.due("to 1", spread(x, 1, 2, 1), -3);
-        CHECK.due("fewer axes", spread(x, 1, 3), -3);
-        CHECK.due("nothing collected", spread(x, 1), -3);
+        CHECK.due("no such grid", Check.spread(x, 2, 2, 3), -14);
+        CHECK.due("other last", Check.spread(x, 1, 2, 4), -3);
+        CHECK.due("other first", Check.spread(x, 1, 3, 3), -3);
+        CHECK.due("counted from the last, not from the first", Check.spread(x, 1, 2, 3, 4), -3);
+        CHECK.due("counted from the last", Check.spread(x, 1, 4, 2, 3), 2);
+        CHECK.due("to 1", Check.spread(x, 1, 2, 1), -3);
+        CHECK.due("fewer axes", Check.spread(x, 1, 3), -3);
+        CHECK.due("nothing collected", Check.spread(x, 1), -3);
         Check.grid(x, 0);
-        CHECK.due("0 to 1", spread(x, 3, 1), -3);
+        CHECK.due("0 to 1", Check.spread(x, 3, 1), -3);
         Check.grid(x, 1, 1);
-        CHECK.due("100000 cells", spread(x, 4, 100, 1000), 5);
+        CHECK.due("100000 cells", Check.spread(x, 4, 100, 1000), 5);
         CHECK.due("cells", x.cells(5), 100000);
-        CHECK.due("100100 cells", spread(x, 4, 1001, 100), -12);
-        CHECK.due("a product of 0 in an int", spread(x, 4, 4096, 4096, 256), -12);
-        CHECK.due("-3 comes before -12", spread(x, 1, 4096, 4096), -3);
-        CHECK.due("fewer axes, though the first is 1", spread(x, 4, 1), -3);
+        CHECK.due("100100 cells", Check.spread(x, 4, 1001, 100), -12);
+        CHECK.due("a product of 0 in an int", Check.spread(x, 4, 4096, 4096, 256), -12);
+        CHECK.due("-3 comes before -12", Check.spread(x, 1, 4096, 4096), -3);
+        CHECK.due("fewer axes, though the first is 1", Check.spread(x, 4, 1), -3);
         CHECK.due("spread cells are not made: there is room", Check.grid(x, 1000, 99), 6);
     }
 
     private static void spreadStaysUnwritten() {
         SliceViews x = new SliceViews();
         Check.counted(x, 3);
-        spread(x, 1, 3);
+        Check.spread(x, 1, 3);
         CHECK.due("a spread view that repeats none", Check.put(x, 2, 1, 0), -5);
         Check.view(x, 2, "0:1");
         CHECK.due("a view of it", Check.put(x, 3, 1, 0), -5);
@@ -121,7 +111,7 @@ public final class OtherViewsTest {
         CHECK.due("turned of that", Check.put(x, 4, 1, 0), -5);
         CHECK.due("copy to it", x.copy(1, 2), -5);
         CHECK.due("cell stays", x.cell(1, 0), 100);
-        shaped(x, 2, 3);
+        Check.shaped(x, 2, 3);
         CHECK.due("a shaped grid of it is its own", Check.put(x, 5, 1, 0), 0);
         CHECK.due("cell stays", x.cell(1, 0), 100);
         CHECK.due("the grid itself is written", Check.put(x, 1, 1, 0), 0);
@@ -131,16 +121,16 @@ public final class OtherViewsTest {
     private static void shapedCells() {
         SliceViews x = new SliceViews();
         counted(x, 2, 3);
-        CHECK.due("shaped 3 2", shaped(x, 1, 3, 2), 2);
+        CHECK.due("shaped 3 2", Check.shaped(x, 1, 3, 2), 2);
         CHECK.dueText("shaped 3 2", Check.shown(x, 2), "(3,2) 0 1 2 3 4 5");
         x.turned(1, 0, 1);
-        CHECK.due("shaped of the turned", shaped(x, 3, 1, 6, 1), 4);
+        CHECK.due("shaped of the turned", Check.shaped(x, 3, 1, 6, 1), 4);
         CHECK.dueText("shaped of the turned", Check.shown(x, 4), "(1,6,1) 0 3 1 4 2 5");
         Check.view(x, 1, "1,::-2");
-        CHECK.due("shaped of a view", shaped(x, 5, 2), 6);
+        CHECK.due("shaped of a view", Check.shaped(x, 5, 2), 6);
         CHECK.dueText("shaped of a view", Check.shown(x, 6), "(2) 5 3");
-        spread(x, 5, 2, 2);
-        CHECK.due("shaped of a spread view", shaped(x, 7, 4), 8);
+        Check.spread(x, 5, 2, 2);
+        CHECK.due("shaped of a spread view", Check.shaped(x, 7, 4), 8);
         CHECK.dueText("shaped of a spread view", Check.shown(x, 8), "(4) 5 3 5 3");
         Check.put(x, 1, 44, 0, 0);
         CHECK.due("its cells are its own", x.cell(2, 0), 0);
@@ -148,7 +138,7 @@ public final class OtherViewsTest {
         CHECK.due("its cells are its own", x.cell(1, 0), 44);
         CHECK.due("shares none", x.shares(1, 2), 0);
         Check.view(x, 1, "0,0");
-        CHECK.due("one cell, no sizes", shaped(x, 9), 10);
+        CHECK.due("one cell, no sizes", Check.shaped(x, 9), 10);
         CHECK.due("axes", x.axes(10), 0);
         CHECK.due("cell", x.get(10), 44);
     }
@@ -156,19 +146,19 @@ public final class OtherViewsTest {
     private static void shapedRefusals() {
         SliceViews x = new SliceViews();
         Check.grid(x, 2, 3);
-        CHECK.due("no such grid", shaped(x, 2, 6), -14);
-        CHECK.due("5 cells", shaped(x, 1, 5), -3);
-        CHECK.due("0 cells", shaped(x, 1, 6, 0), -3);
-        CHECK.due("nothing collected", shaped(x, 1), -3);
-        CHECK.due("6 in an int", shaped(x, 1, 4096, 4096, 4096, 4096), -3);
+        CHECK.due("no such grid", Check.shaped(x, 2, 6), -14);
+        CHECK.due("5 cells", Check.shaped(x, 1, 5), -3);
+        CHECK.due("0 cells", Check.shaped(x, 1, 6, 0), -3);
+        CHECK.due("nothing collected", Check.shaped(x, 1), -3);
+        CHECK.due("6 in an int", Check.shaped(x, 1, 4096, 4096, 4096, 4096), -3);
         Check.grid(x, 4096, 0);
-        CHECK.due("0 of 0", shaped(x, 2, 0), 3);
-        CHECK.due("0 in an int", shaped(x, 2, 4096, 4096, 256), -3);
+        CHECK.due("0 of 0", Check.shaped(x, 2, 0), 3);
+        CHECK.due("0 in an int", Check.shaped(x, 2, 4096, 4096, 256), -3);
         Check.grid(x, 333, 300);
-        CHECK.due("no room for as many again", shaped(x, 4, 300, 333), -12);
-        CHECK.due("-3 comes before -12", shaped(x, 4, 300, 334), -3);
+        CHECK.due("no room for as many again", Check.shaped(x, 4, 300, 333), -12);
+        CHECK.due("-3 comes before -12", Check.shaped(x, 4, 300, 334), -3);
         CHECK.due("what was refused took no room", Check.grid(x, 94), 5);
-        CHECK.due("room is up", shaped(x, 1, 6), -12);
+        CHECK.due("room is up", Check.shaped(x, 1, 6), -12);
     }
 
     private static void copies() {
@@ -183,7 +173,7 @@ public final class OtherViewsTest {
         CHECK.due("copy from view to view", x.copy(4, 3), 0);
         CHECK.dueText("copy from view to view", Check.shown(x, 2), "(2,3) 0 3 4 3 0 1");
         Check.counted(x, 3);
-        CHECK.due("spread", spread(x, 5, 2, 3), 6);
+        CHECK.due("spread", Check.spread(x, 5, 2, 3), 6);
         CHECK.due("copy from a spread view", x.copy(6, 2), 0);
         CHECK.dueText("copy from a spread view", Check.shown(x, 2), "(2,3) 100 101 102 100 101 102");
         CHECK.due("copy to itself", x.copy(2, 2), 0);
@@ -209,7 +199,7 @@ public final class OtherViewsTest {
         CHECK.due("copy exchanged", x.copy(6, 5), 0);
         CHECK.dueText("copy exchanged", Check.shown(x, 5), "(2,2) 0 2 1 3");
         Check.view(x, 5, "1");
-        spread(x, 7, 2, 2);
+        Check.spread(x, 7, 2, 2);
         CHECK.due("copy from a spread view of itself", x.copy(8, 5), 0);
         CHECK.dueText("copy from a spread view of itself", Check.shown(x, 5), "(2,2) 1 3 1 3");
     }
@@ -229,7 +219,7 @@ public final class OtherViewsTest {
         CHECK.due("one less axis", x.copy(4, 1), -3);
         Check.grid(x, 1, 3);
         CHECK.due("sizes are not spread", x.copy(5, 1), -3);
-        spread(x, 3, 2, 6);
+        Check.spread(x, 3, 2, 6);
         CHECK.due("-5 comes before -3", x.copy(1, 6), -5);
         CHECK.due("-14 comes before -5", x.copy(9, 6), -14);
         CHECK.due("from a spread view of other sizes", x.copy(6, 1), -3);
@@ -257,7 +247,7 @@ public final class OtherViewsTest {
         CHECK.due("the half and its first cell", x.shares(3, 6), 1);
         CHECK.due("one cell and the other half", x.shares(5, 4), 0);
         CHECK.due("another grid's", x.shares(5, 2), 0);
-        spread(x, 5, 7, 7);
+        Check.spread(x, 5, 7, 7);
         CHECK.due("spread of the cell and its half", x.shares(7, 3), 1);
         CHECK.due("its half and the spread", x.shares(3, 7), 1);
         CHECK.due("spread of the cell and the other half", x.shares(7, 4), 0);

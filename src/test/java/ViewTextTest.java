@@ -285,12 +285,19 @@ public final class ViewTextTest {
     }
 
     private static void longText() {
+        longFault("*,".repeat(2000), 4000);
+        longFault("*,".repeat(2000) + "*", 4001);
+        longFault("0,".repeat(2000) + "0", 2);
         SliceViews x = new SliceViews();
         Check.grid(x, 4);
-        fault(x, 1, "*,".repeat(2000), 4000);
-        fault(x, 1, "*,".repeat(2000) + "*", 4001);
-        fault(x, 1, "0,".repeat(2000) + "0", 2);
         CHECK.due("many blanks", Check.view(x, 1, " ".repeat(3000) + "1:" + " ".repeat(3000) + "3"), 2);
         CHECK.due("size", x.size(2, 0), 2);
+    }
+
+    /** On an object of its own, since each such text takes some two hundred of its 512 calls. */
+    private static void longFault(String text, int place) {
+        SliceViews x = new SliceViews();
+        Check.grid(x, 4);
+        fault(x, 1, text, place);
     }
 }
