@@ -599,7 +599,7 @@ public final class SliceViews {
 
         private void readParts() {
             readPart();
-            while (fault == NOWHERE && partCount < MAX_PARTS && here() == ':') {
+            for (int colons = 1; colons < MAX_PARTS && fault == NOWHERE && here() == ':'; colons++) {
                 position++;
                 skipBlanks();
                 readPart();

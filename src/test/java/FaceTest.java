@@ -5,6 +5,7 @@ import java.lang.reflect.Method;
 import java.lang.reflect.Modifier;
 import java.nio.file.Files;
 import java.nio.file.Path;
+import java.util.ArrayList;
 import java.util.Arrays;
 import java.util.List;
 import java.util.Set;
@@ -25,7 +26,11 @@ public final class FaceTest {
         publicFace();
         privateNames();
         innerClasses();
-        wordsLeftOut();
+        parameters();
+        String code = codeOfTheClass();
+        wordsLeftOut(code);
+        libraryNames(code);
+        methodLengths(code);
         CHECK.end();
     }
 
@@ -83,14 +88,59 @@ public final class FaceTest {
         }
     }
 
-    private static void wordsLeftOut() throws IOException {
+    private static void parameters() {
+        List<Class<?>> classes = new ArrayList<>(List.of(SliceViews.class.getDeclaredClasses()));
+        classes.add(SliceViews.class);
+        for (Class<?> c : classes) {
+            for (Method m : c.getDeclaredMethods()) {
+                CHECK.due("at most seven parameters: " + m, m.getParameterCount() <= 7 ? 1 : 0, 1);
+            }
+            for (Constructor<?> made : c.getDeclaredConstructors()) {
+                CHECK.due("at most seven parameters: " + made, made.getParameterCount() <= 7 ? 1 : 0, 1);
+            }
+        }
+    }
+
+    private static String codeOfTheClass() throws IOException {
         String source = Files.readString(Path.of("src/main/java/SliceViews.java"));
-        String code = source.replaceAll("(?s)/\\*.*?\\*/", "").replaceAll("//[^\n]*", "");
-        Matcher found = Pattern.compile("\\b(throw|throws|try|catch|synchronized|assert|package|\\w+Exact)\\b|->|::|\"").matcher(code);
+        return source.replaceAll("(?s)/\\*.*?\\*/", "").replaceAll("//[^\n]*", "");
+    }
+
+    private static void wordsLeftOut(String code) {
+        Matcher found = Pattern.compile("\\b(throw|throws|try|catch|synchronized|assert|package|protected|instanceof|\\w+Exact)\\b|->|::|\"").matcher(code);
         CHECK.dueText("words left out", found.find() ? found.group() : "none", "none");
         Matcher imports = Pattern.compile("import [^;]*;").matcher(code);
         while (imports.find()) {
             CHECK.dueText("import", imports.group(), "import java.util.Arrays;");
+        }
+    }
+
+    /** What is called by a name with a capital, or on a new thing, is in the list of LANGUAGE.md or an own class. */
+    private static void libraryNames(String code) {
+        Set<String> listed = Set.of("Arrays.copyOf", "Arrays.copyOfRange", "Arrays.fill", "Math.min", "Math.max", "Math.abs");
+        Matcher called = Pattern.compile("\\b([A-Z]\\w*\\.[a-z]\\w*)\\(").matcher(code);
+        while (called.find()) {
+            CHECK.due("is in the list: " + called.group(1), listed.contains(called.group(1)) ? 1 : 0, 1);
+        }
+        Set<String> own = Set.of("Collected", "Grid", "Walk", "ItemReader", "Cut", "int", "long", "byte", "boolean");
+        Matcher made = Pattern.compile("\\bnew (\\w+)").matcher(code);
+        while (made.find()) {
+            CHECK.due("may be made: " + made.group(1), own.contains(made.group(1)) ? 1 : 0, 1);
+        }
+    }
+
+    /** A method begins with a line that ends in "{" and ends with a brace as far in as its first line. */
+    private static void methodLengths(String code) {
+        String[] lines = code.split("\n");
+        for (int n = 0; n < lines.length; n++) {
+            String margin = lines[n].substring(0, lines[n].length() - lines[n].stripLeading().length());
+            if (lines[n].matches(" +[^=]*\\w\\([^;]*\\) \\{") && !lines[n].contains(" class ")) {
+                int end = n;
+                while (end < lines.length && !lines[end].equals(margin + "}")) {
+                    end++;
+                }
+                CHECK.due("at most sixty lines: " + lines[n].strip(), end - n <= 60 ? 1 : 0, 1);
+            }
         }
     }
 }

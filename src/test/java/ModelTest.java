@@ -1,339 +1,299 @@
-import java.util.ArrayList;
-import java.util.List;
-
 /**
- * Runs of many calls against a model that works otherwise: it keeps a list of cell objects for every grid,
- * and has no steps or starts. The calls come from a fixed sequence, so every run of the test is the same.
+ * Every promise, for calls in any order and with any arguments, up to the 512th call on an object: runs of calls
+ * against the model, in which every answer is compared. The runs differ in what they reach.
  */
 public final class ModelTest {
     private static final Check CHECK = new Check();
-    private static final int RUNS = 1500;
-    private static final int CALLS = 300;
+    private static final int ANY_RUNS = 2500;
+    private static final int MIXED_RUNS = 2500;
+    private static final int FULL_RUNS = 150;
+    private static final int LARGE_RUNS = 60;
+    private static final int[] EDGES = {
+        Integer.MIN_VALUE, Integer.MIN_VALUE + 1, -100001, -4097, -4096, -401, -400, -5, -4, -2, -1, 0, 1, 2, 3, 4, 5,
+        19, 20, 21, 399, 400, 401, 4095, 4096, 4097, 15999, 16000, 16001, 65536, 99999, 100000, 100001,
+        Integer.MAX_VALUE - 1, Integer.MAX_VALUE};
+    private static final int[] LARGE_SIZES = {0, 1, 1, 2, 5, 10, 25, 64, 100, 250, 316, 317, 400, 1000, 2048, 4095, 4096};
+    private static final String LOOSE_BYTES = "0123456789::::--,,,,**  ";
     private static final String[] PIECES = {
         "0", "1", "-1", "2", "-2", "3", "-4", "7", ":", ":", ":", "::", "::-1", "::2", "1:", ":2", "-2:", ":-1",
-        "3:0:-1", "::-2", "*", "*", "1::2", "::0", "-1:-9:-2", "5:1", " ", "", "x", "1:2:3:4", "--1", "1234567890"};
+        "3:0:-1", "::-2", "*", "*", "1::2", "::0", "-1:-9:-2", "5:1", " ", "", "x", "1:2:3:4", "--1", "1234567890",
+        "000000001", "-0", "999999999:", ":-999999999:-1", "::999999999", "::-999999999", " 1 : : -1 ", "- 1", "1 1"};
 
-    private long seed = 0;
-    private SliceViews real;
-    private List<Grid> grids;
-    private int made;
+    private final Dice dice;
+    private final Pair pair;
 
-    private record Cell(long[] value) {
-        Cell() {
-            this(new long[1]);
-        }
-    }
-
-    private record Grid(List<Integer> sizes, List<Cell> cells, boolean spread) {
-        Cell at(List<Integer> spot) {
-            int n = 0;
-            for (int a = 0; a < sizes.size(); a++) {
-                if (spot.get(a) < 0 || spot.get(a) >= sizes.get(a)) {
-                    return null;
-                }
-                n = n * sizes.get(a) + spot.get(a);
-            }
-            return cells.get(n);
-        }
+    private ModelTest(String kind, int number) {
+        dice = new Dice(number + kind.length() * 100000L);
+        pair = new Pair(CHECK, kind + " run " + number);
     }
 
     public static void main(String[] args) {
-        for (int run = 1; run <= RUNS; run++) {
-            new ModelTest().run(run);
+        for (int n = 1; n <= ANY_RUNS; n++) {
+            new ModelTest("any", n).anyRun();
+        }
+        for (int n = 1; n <= MIXED_RUNS; n++) {
+            new ModelTest("mixed", n).mixedRun();
+        }
+        for (int n = 1; n <= FULL_RUNS; n++) {
+            new ModelTest("full", n).fullRun();
+        }
+        for (int n = 1; n <= LARGE_RUNS; n++) {
+            new ModelTest("large", n).largeRun();
         }
         CHECK.end();
     }
 
-    private void run(int number) {
-        seed = number * 7919L;
-        real = new SliceViews();
-        grids = new ArrayList<>();
-        made = 0;
-        for (int n = 0; n < CALLS; n += 4) {
-            doOne("run " + number + " step " + n + ": ");
-        }
-        for (int g = 1; g <= grids.size(); g++) {
-            compareAll("run " + number + " grid " + g + ": ", g);
+    /** Calls without a plan, so that what is collected meets every other call. */
+    private void anyRun() {
+        int wildness = 2 + dice.below(12);
+        while (pair.callsLeft() > 0) {
+            anyCall(wildness);
         }
     }
 
-    private void compareAll(String label, int g) {
-        Grid grid = grids.get(g - 1);
-        CHECK.due(label + "axes", real.axes(g), grid.sizes().size());
-        CHECK.due(label + "cells", real.cells(g), grid.cells().size());
-        for (int a = 0; a < grid.sizes().size(); a++) {
-            CHECK.due(label + "size " + a, real.size(g, a), grid.sizes().get(a));
+    /** Whole uses of the class (collect, then call) with loose calls between, and then a look at all grids. */
+    private void mixedRun() {
+        int look = 50 + dice.below(250);
+        while (pair.callsLeft() > look) {
+            if (dice.oneIn(6)) {
+                anyCall(8);
+            } else {
+                plannedUse();
+            }
         }
-        for (int n = 0; n < Math.min(500, grid.cells().size()); n++) {
-            CHECK.due(label + "cell " + n, real.cell(g, n), grid.cells().get(n).value()[0]);
+        lookAround();
+    }
+
+    /** Most calls make a grid or a view, so that the 400th comes while calls are left to be refused. */
+    private void fullRun() {
+        pair.axis(2);
+        pair.axis(1);
+        pair.axis(3);
+        pair.grid();
+        while (pair.callsLeft() > 12) {
+            if (pair.model.gridCount() < 400 && !dice.oneIn(15)) {
+                makeOneMore();
+            } else if (dice.oneIn(2)) {
+                anyCall(6);
+            } else {
+                plannedUse();
+            }
+        }
+        lookAround();
+    }
+
+    private void makeOneMore() {
+        int g = 1 + dice.below(pair.model.gridCount());
+        switch (dice.below(6)) {
+            case 0 -> pair.turned(1, dice.below(3), dice.below(3));
+            case 1 -> pair.grid();
+            default -> pair.view(g);
         }
     }
 
-    private int below(int bound) {
-        seed = seed * 6364136223846793005L + 1442695040888963407L;
-        return (int) ((seed >>> 33) % bound);
+    /** Grids near and beyond 100000 cells in all, and spread views near and beyond 100000. */
+    private void largeRun() {
+        while (pair.callsLeft() > 12 && pair.model.gridCount() < 60) {
+            switch (dice.below(8)) {
+                case 0, 1 -> {
+                    collectSizes(LARGE_SIZES);
+                    pair.grid();
+                }
+                case 2, 3 -> spreadWide(someGrid(20), LARGE_SIZES);
+                case 4 -> shapedAlike(someGrid(20));
+                default -> plannedUse();
+            }
+        }
+        lookAround();
     }
 
-    private void doOne(String label) {
-        int kind = grids.size() < 2 ? 0 : below(14);
-        int g = below(grids.size() + 1) + (below(12) == 0 ? 0 : 1);
-        int h = below(grids.size() + 1) + (below(12) == 0 ? 0 : 1);
+    private void lookAround() {
+        while (pair.callsLeft() > 0) {
+            int g = someGrid(30);
+            switch (dice.below(6)) {
+                case 0 -> pair.axes(g);
+                case 1 -> pair.size(g, dice.below(6) - 1);
+                case 2 -> pair.cells(g);
+                case 3 -> pair.shares(g, someGrid(30));
+                default -> pair.cell(g, dice.below(Math.max(1, cellCount(g)) + 1));
+            }
+        }
+    }
+
+    private int someGrid(int wildness) {
+        return dice.oneIn(wildness) ? any() : 1 + dice.below(pair.model.gridCount() + 1);
+    }
+
+    private int any() {
+        return dice.oneIn(9) ? dice.anyInt() : dice.oneIn(2) ? dice.oneOf(EDGES) : dice.below(30) - 2;
+    }
+
+    private int smallOrAny(int wildness, int from, int bound) {
+        return dice.oneIn(wildness) ? any() : from + dice.below(bound);
+    }
+
+    private int cellCount(int g) {
+        return Math.max(0, pair.model.cells(g));
+    }
+
+    private void anyCall(int wildness) {
+        switch (dice.below(23)) {
+            case 0, 1 -> feedLoose();
+            case 2, 3 -> pair.end(smallOrAny(wildness, 0, 9));
+            case 4, 5 -> pair.axis(smallOrAny(wildness, 0, 5));
+            case 6, 7 -> pair.at(smallOrAny(wildness, -1, 5));
+            case 8 -> pair.grid();
+            case 9 -> pair.put(someGrid(wildness), dice.anyInt() * 4294967297L);
+            case 10 -> pair.get(someGrid(wildness));
+            case 11 -> pair.cell(someGrid(wildness), smallOrAny(wildness, 0, 12));
+            case 12 -> pair.code();
+            case 13 -> pair.axes(someGrid(wildness));
+            case 14 -> pair.size(someGrid(wildness), smallOrAny(wildness, -1, 6));
+            case 15 -> pair.cells(someGrid(wildness));
+            case 16 -> pair.view(someGrid(wildness));
+            case 17 -> pair.place();
+            case 18 -> pair.turned(someGrid(wildness), smallOrAny(wildness, 0, 3), smallOrAny(wildness, 0, 3));
+            case 19 -> pair.spread(someGrid(wildness));
+            case 20 -> pair.shaped(someGrid(wildness));
+            case 21 -> pair.copy(someGrid(wildness), someGrid(wildness));
+            default -> pair.shares(someGrid(wildness), someGrid(wildness));
+        }
+    }
+
+    private void feedLoose() {
+        if (dice.oneIn(3)) {
+            feedPart(text());
+        } else {
+            pair.feed(fourBytes(), fourBytes(), fourBytes(), fourBytes(), fourBytes());
+        }
+    }
+
+    private int fourBytes() {
+        int packed = 0;
+        for (int i = 0; i < 4; i++) {
+            packed = packed << 8 | (dice.oneIn(100) ? dice.below(256) : LOOSE_BYTES.charAt(dice.below(LOOSE_BYTES.length())));
+        }
+        return packed;
+    }
+
+    private void feedPart(String text) {
+        int[] five = new int[5];
+        for (int i = 0; i < 20; i++) {
+            five[i / 4] = five[i / 4] << 8 | (i < text.length() ? text.charAt(i) : ' ');
+        }
+        pair.feed(five[0], five[1], five[2], five[3], five[4]);
+    }
+
+    private void plannedUse() {
+        int kind = pair.model.gridCount() < 2 ? 0 : dice.below(15);
+        int g = someGrid(20);
         switch (kind) {
-            case 0 -> grid(label);
-            case 1, 2, 3 -> put(label, g);
-            case 4, 5, 6, 7 -> view(label, g);
-            case 8 -> turned(label, g);
-            case 9, 10 -> spread(label, g);
-            case 11 -> shaped(label, g);
-            case 12 -> copy(label, g, below(2) == 0 ? h : sameSized(g));
-            default -> shares(label, g, h);
+            case 0 -> {
+                collectSizes(0, 1, 1, 2, 3, 4, 5);
+                pair.grid();
+            }
+            case 1, 2, 3 -> putAndGet(g);
+            case 4, 5, 6, 7 -> viewByText(g);
+            case 8 -> pair.turned(g, dice.below(5), dice.below(3));
+            case 9, 10 -> spreadWide(g, 0, 1, 2, 3);
+            case 11 -> shapedAlike(g);
+            case 12, 13 -> pair.copy(g, dice.oneIn(2) ? someGrid(20) : sameSized(g));
+            default -> pair.shares(g, someGrid(20));
         }
     }
 
-    private Grid model(int g) {
-        return g >= 1 && g <= grids.size() ? grids.get(g - 1) : null;
+    private void collectSizes(int... from) {
+        for (int n = dice.below(5); n > 0; n--) {
+            pair.axis(dice.oneOf(from));
+        }
+    }
+
+    private void spreadWide(int g, int... from) {
+        widenedSizes(g, from);
+        pair.spread(g);
+    }
+
+    /** Sizes to which g can mostly be spread, with axes added in front and ones made larger. */
+    private void widenedSizes(int g, int... from) {
+        int[] sizes = pair.model.sizesOf(g);
+        if (sizes == null || dice.oneIn(6)) {
+            collectSizes(from);
+            return;
+        }
+        for (int n = dice.below(5 - sizes.length); n > 0; n--) {
+            pair.axis(dice.oneOf(from));
+        }
+        for (int size : sizes) {
+            pair.axis(size == 1 && dice.oneIn(2) || dice.oneIn(25) ? dice.oneOf(from) : size);
+        }
+    }
+
+    private void shapedAlike(int g) {
+        int count = cellCount(g);
+        int first = dice.oneOf(1, 1, 2, 3, 4, 10, 25);
+        if (dice.oneIn(6)) {
+            collectSizes(0, 1, 2, 3, 4);
+        } else if (count % first == 0 && count / first <= 4096) {
+            pair.axis(first);
+            pair.axis(count / first);
+        } else {
+            pair.axis(Math.min(4096, count));
+        }
+        pair.shaped(g);
     }
 
     private int sameSized(int g) {
-        Grid grid = model(g);
-        int from = below(grids.size() + 1);
-        for (int n = 0; grid != null && n < grids.size(); n++) {
-            int h = (from + n) % grids.size();
-            if (h + 1 != g && grids.get(h).sizes().equals(grid.sizes())) {
-                return h + 1;
+        int[] sizes = pair.model.sizesOf(g);
+        int count = pair.model.gridCount();
+        int from = dice.below(count);
+        for (int n = 0; n < count; n++) {
+            int h = 1 + (from + n) % count;
+            if (h != g && java.util.Arrays.equals(sizes, pair.model.sizesOf(h))) {
+                return h;
             }
         }
         return g;
     }
 
-    private List<Integer> sizes(Grid like) {
-        List<Integer> sizes = new ArrayList<>();
-        if (like != null && below(4) != 0) {
-            for (int size : like.sizes()) {
-                sizes.add(size == 1 && below(2) == 0 ? below(4) : size);
-            }
-            for (int n = below(3); n > 0 && sizes.size() < 4; n--) {
-                sizes.add(0, below(4));
-            }
-        } else {
-            for (int n = below(5); n > 0; n--) {
-                sizes.add(below(40) == 0 ? 300 : below(6));
-            }
-        }
-        sizes.forEach(real::axis);
-        return sizes;
-    }
-
-    private static long count(List<Integer> sizes) {
-        return sizes.stream().mapToLong(Integer::longValue).reduce(1, (a, b) -> a * b);
-    }
-
-    private int keep(Grid grid, boolean own) {
-        made += own ? grid.cells().size() : 0;
-        grids.add(grid);
-        return grids.size();
-    }
-
-    private static Grid fresh(List<Integer> sizes) {
-        List<Cell> cells = new ArrayList<>();
-        for (long n = count(sizes); n > 0; n--) {
-            cells.add(new Cell());
-        }
-        return new Grid(sizes, cells, false);
-    }
-
-    private void grid(String label) {
-        List<Integer> sizes = sizes(null);
-        boolean fits = made + count(sizes) <= 100000;
-        CHECK.due(label + "grid " + sizes, real.grid(), fits ? keep(fresh(sizes), true) : -12);
-    }
-
-    private void put(String label, int g) {
-        Grid grid = model(g);
-        List<Integer> spot = new ArrayList<>();
-        int indexes = grid == null || below(8) == 0 ? below(5) : grid.sizes().size();
+    private void putAndGet(int g) {
+        int[] sizes = pair.model.sizesOf(g);
+        int indexes = sizes == null || dice.oneIn(10) ? dice.below(5) : sizes.length;
         for (int a = 0; a < indexes; a++) {
-            int size = grid == null || a >= grid.sizes().size() ? 3 : grid.sizes().get(a);
-            spot.add(below(10) == 0 ? size - below(2) * (size + 1) : below(Math.max(1, size)));
+            int size = sizes == null || a >= sizes.length ? 3 : sizes[a];
+            pair.at(dice.oneIn(15) ? dice.oneOf(-1, size, size + 1, -size) : dice.below(Math.max(1, size)));
         }
-        spot.forEach(real::at);
-        int code = grid == null ? 14 : indexes != grid.sizes().size() ? 1 : grid.at(spot) == null ? 2 : 0;
-        CHECK.due(label + "get " + g + " " + spot, real.get(g), code == 0 ? grid.at(spot).value()[0] : 0);
-        CHECK.due(label + "code", real.code(), code);
-        spot.forEach(real::at);
-        long v = below(1000000);
-        int want = code == 14 || code == 1 ? -code : grid.spread() ? -5 : -code;
-        CHECK.due(label + "put " + g + " " + spot, real.put(g, v), want);
-        if (want == 0) {
-            grid.at(spot).value()[0] = v;
+        if (dice.oneIn(3)) {
+            pair.get(g);
+            pair.code();
+        } else {
+            pair.put(g, dice.below(1000000));
+        }
+    }
+
+    private void viewByText(int g) {
+        String text = text();
+        pair.end(0);
+        for (int from = 0; from < text.length(); from += 20) {
+            feedPart(text.substring(from));
+        }
+        pair.end(text.length());
+        pair.view(g);
+        if (dice.oneIn(2)) {
+            pair.place();
         }
     }
 
     private String text() {
         StringBuilder out = new StringBuilder();
-        for (int n = below(5); n > 0; n--) {
-            out.append(PIECES[below(below(3) == 0 ? PIECES.length : 22)]).append(n > 1 ? "," : "");
+        for (int n = dice.below(5); n > 0; n--) {
+            out.append(PIECES[dice.below(dice.oneIn(3) ? PIECES.length : 22)]).append(n > 1 ? "," : "");
         }
-        if (below(5) == 0 && out.length() > 0) {
-            out.insert(below(out.length()), " ");
+        if (dice.oneIn(5) && out.length() > 0) {
+            out.insert(dice.below(out.length()), " ");
         }
-        if (below(25) == 0 && out.length() > 0) {
-            out.setCharAt(below(out.length()), (char) below(256));
+        if (dice.oneIn(25) && out.length() > 0) {
+            out.setCharAt(dice.below(out.length()), (char) dice.below(256));
         }
         return out.toString();
-    }
-
-    private void view(String label, int g) {
-        String text = text();
-        Grid grid = model(g);
-        int fault = grid == null ? -1 : ModelText.fault(text, grid.sizes());
-        int want = grid == null ? -14 : fault >= 0 ? -20 : keep(viewed(grid, text), false);
-        CHECK.due(label + "view " + g + " '" + text + "'", Check.view(real, g, text), want);
-        CHECK.due(label + "place of '" + text + "'", real.place(), fault);
-    }
-
-    /** Picks the cells one by one: every spot of the view is told as a spot of the grid. */
-    private static Grid viewed(Grid grid, String text) {
-        List<List<Integer>> choices = ModelText.choices(text, grid.sizes());
-        List<Integer> sizes = ModelText.newSizes(text, grid.sizes());
-        List<Cell> cells = new ArrayList<>();
-        pick(grid, choices, new ArrayList<>(), cells);
-        return new Grid(sizes, cells, grid.spread());
-    }
-
-    private static void pick(Grid grid, List<List<Integer>> choices, List<Integer> spot, List<Cell> into) {
-        if (spot.size() == choices.size()) {
-            into.add(grid.at(spot));
-            return;
-        }
-        for (int index : choices.get(spot.size())) {
-            spot.add(index);
-            pick(grid, choices, spot, into);
-            spot.remove(spot.size() - 1);
-        }
-    }
-
-    private void turned(String label, int g) {
-        Grid grid = model(g);
-        int a = below(5) - (below(9) == 0 ? 1 : 0);
-        int b = below(3);
-        int axes = grid == null ? 0 : grid.sizes().size();
-        boolean there = a >= 0 && a < axes && b < axes;
-        int want = grid == null ? -14 : there ? keep(turned(grid, a, b), false) : -2;
-        CHECK.due(label + "turned " + g + " " + a + " " + b, real.turned(g, a, b), want);
-    }
-
-    private static Grid turned(Grid grid, int a, int b) {
-        List<Integer> sizes = exchanged(grid.sizes(), a, b);
-        List<Cell> cells = new ArrayList<>();
-        for (List<Integer> spot : spots(sizes)) {
-            cells.add(grid.at(exchanged(spot, a, b)));
-        }
-        return new Grid(sizes, cells, grid.spread());
-    }
-
-    private static List<Integer> exchanged(List<Integer> row, int a, int b) {
-        List<Integer> out = new ArrayList<>(row);
-        out.set(a, row.get(b));
-        out.set(b, row.get(a));
-        return out;
-    }
-
-    private static List<List<Integer>> spots(List<Integer> sizes) {
-        List<List<Integer>> out = new ArrayList<>();
-        out.add(List.of());
-        for (int size : sizes) {
-            List<List<Integer>> longer = new ArrayList<>();
-            for (List<Integer> spot : out) {
-                for (int i = 0; i < size; i++) {
-                    List<Integer> next = new ArrayList<>(spot);
-                    next.add(i);
-                    longer.add(next);
-                }
-            }
-            out = longer;
-        }
-        return out;
-    }
-
-    private void spread(String label, int g) {
-        Grid grid = model(g);
-        List<Integer> sizes = sizes(grid);
-        int want = grid == null ? -14 : !together(grid.sizes(), sizes) ? -3
-            : count(sizes) > 100000 ? -12 : keep(spread(grid, sizes), false);
-        CHECK.due(label + "spread " + g + " " + sizes, real.spread(g), want);
-    }
-
-    private static boolean together(List<Integer> from, List<Integer> to) {
-        int added = to.size() - from.size();
-        for (int a = 0; added >= 0 && a < from.size(); a++) {
-            if (from.get(a) != 1 && !from.get(a).equals(to.get(a + added))) {
-                return false;
-            }
-        }
-        return added >= 0;
-    }
-
-    private static Grid spread(Grid grid, List<Integer> sizes) {
-        int added = sizes.size() - grid.sizes().size();
-        List<Cell> cells = new ArrayList<>();
-        for (List<Integer> spot : spots(sizes)) {
-            List<Integer> source = new ArrayList<>();
-            for (int a = 0; a < grid.sizes().size(); a++) {
-                source.add(grid.sizes().get(a) == 1 ? 0 : spot.get(a + added));
-            }
-            cells.add(grid.at(source));
-        }
-        return new Grid(sizes, cells, true);
-    }
-
-    private void shaped(String label, int g) {
-        Grid grid = model(g);
-        List<Integer> sizes = sizes(null);
-        if (grid != null && below(3) != 0 && grid.cells().size() <= 4096) {
-            real.grid();
-            if (made + count(sizes) <= 100000) {
-                keep(fresh(sizes), true);
-            }
-            sizes = below(2) == 0 ? List.of(grid.cells().size()) : List.of(1, grid.cells().size());
-            sizes.forEach(real::axis);
-        }
-        int want = grid == null ? -14 : count(sizes) != grid.cells().size() ? -3
-            : made + count(sizes) > 100000 ? -12 : keep(shaped(grid, sizes), true);
-        CHECK.due(label + "shaped " + g + " " + sizes, real.shaped(g), want);
-    }
-
-    private static Grid shaped(Grid grid, List<Integer> sizes) {
-        Grid out = fresh(sizes);
-        for (int n = 0; n < out.cells().size(); n++) {
-            out.cells().get(n).value()[0] = grid.cells().get(n).value()[0];
-        }
-        return out;
-    }
-
-    private void copy(String label, int g, int h) {
-        Grid from = model(g);
-        Grid to = model(h);
-        int want = from == null || to == null ? -14 : to.spread() ? -5 : from.sizes().equals(to.sizes()) ? 0 : -3;
-        CHECK.due(label + "copy " + g + " " + h, real.copy(g, h), want);
-        if (want == 0) {
-            long[] values = from.cells().stream().mapToLong(c -> c.value()[0]).toArray();
-            for (int n = 0; n < values.length; n++) {
-                to.cells().get(n).value()[0] = values[n];
-            }
-        }
-    }
-
-    private void shares(String label, int g, int h) {
-        Grid one = model(g);
-        Grid other = model(h);
-        int want = one == null || other == null ? -14 : meet(one, other) ? 1 : 0;
-        CHECK.due(label + "shares " + g + " " + h, real.shares(g, h), want);
-    }
-
-    private static boolean meet(Grid one, Grid other) {
-        java.util.Set<Object> rows = java.util.Collections.newSetFromMap(new java.util.IdentityHashMap<>());
-        one.cells().forEach(c -> rows.add(c.value()));
-        return other.cells().stream().anyMatch(c -> rows.contains(c.value()));
     }
 }
